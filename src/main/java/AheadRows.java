@@ -17,15 +17,16 @@ public final class AheadRows {
     private static final int LEAST_MODULUS = 2, MOST_MODULUS = 10, MODULI = 9;
 
     private final Ledger ledger = new Ledger();
-    private final Given given = new Given();
-    private final Page page = new Page();
+    private final Numbers given = new Numbers(MOST_GIVEN);
+    private final Numbers page = new Numbers(MOST_LETTERS);
     private final Reader reader = new Reader();
+    private final Explanation explanation = new Explanation();
     private final Terms terms = new Terms();
     private final Remainders remainders = new Remainders();
     private final Complexity complexity = new Complexity();
     private final Cycle drawnCycle = new Cycle(5);
     private final Ledger keptLedger = new Ledger();
-    private final Given keptGiven = new Given();
+    private final Numbers keptGiven = new Numbers(MOST_GIVEN);
     private boolean imageStands;
     private int timesRead;
 
@@ -38,11 +39,11 @@ public final class AheadRows {
         if (!isWithin(code, 32, 126)) {
             return OUTSIDE;
         }
-        return page.append(code) ? page.length() : FULL;
+        return page.append(code) ? page.size() : FULL;
     }
 
     public int blank() {
-        int before = page.length();
+        int before = page.size();
         page.clear();
         return before;
     }
@@ -329,26 +330,26 @@ public final class AheadRows {
         if (!isWithin(what, 0, 2)) {
             return OUTSIDE;
         }
-        if (!given.explain()) {
+        if (!explanation.isFoundFor(given)) {
             return NONE;
         }
         if (what == 0) {
-            return given.degree();
+            return explanation.degree();
         }
-        return what == 1 ? given.u() : given.v();
+        return what == 1 ? explanation.u() : explanation.v();
     }
 
     public int found() {
-        if (!given.explain()) {
+        if (!explanation.isFoundFor(given)) {
             return STATE;
         }
-        switch (given.degree()) {
+        switch (explanation.degree()) {
             case 0:
                 return added(TOLD, 0, 0, 0, 0);
             case 1:
-                return added(TOLD, given.u(), 0, given.at(0), given.u() * given.at(0));
+                return added(TOLD, explanation.u(), 0, given.at(0), explanation.u() * given.at(0));
             default:
-                return added(TOLD, given.u(), given.v(), given.at(0), given.at(1));
+                return added(TOLD, explanation.u(), explanation.v(), given.at(0), given.at(1));
         }
     }
 
@@ -411,7 +412,7 @@ public final class AheadRows {
             case 3:
                 return given.size();
             case 4:
-                return page.length();
+                return page.size();
             case 5:
                 return timesRead;
             default:
@@ -430,7 +431,7 @@ public final class AheadRows {
         for (int what = 0; what <= 2; what++) {
             h = 31 * h + guess(what);
         }
-        for (int i = 0; i < page.length(); i++) {
+        for (int i = 0; i < page.size(); i++) {
             h = 31 * h + page.at(i);
         }
         for (int what = 0; what <= 5; what++) {
@@ -455,15 +456,10 @@ public final class AheadRows {
     }
 
     private int added(int kind, int a, int b, int c, int d) {
-        if (!ledger.append(kind, a, b, c, d)) {
-            return FULL;
-        }
-        int row = ledger.size() - 1;
-        changedFrom(row);
-        return row;
+        return ledger.append(kind, a, b, c, d) ? ledger.size() - 1 : FULL;
     }
 
-    // Parts have lower numbers, so a change leaves what is known of the rows below it true.
+    // Parts have lower numbers, so a change leaves what is known of lower rows true; a row that is added is not known yet.
     private void changedFrom(int row) {
         terms.forgetFrom(row);
         remainders.forgetFrom(row);
@@ -646,30 +642,41 @@ public final class AheadRows {
         }
     }
 
-    /** The text that letter() writes. */
-    private static final class Page {
-        private final int[] codes = new int[MOST_LETTERS];
-        private int length;
+    /** A list of numbers, at most so many as its room was made for. */
+    private static final class Numbers {
+        private final int[] values;
+        private int size;
 
-        int length() {
-            return length;
+        Numbers(int most) {
+            values = new int[Math.max(most, 0)];
+        }
+
+        int size() {
+            return size;
         }
 
         int at(int place) {
-            return place >= 0 && place < length && place < MOST_LETTERS ? codes[place] : 0;
+            return place >= 0 && place < size && place < values.length ? values[place] : 0;
         }
 
-        boolean append(int code) {
-            if (length >= MOST_LETTERS) {
+        boolean append(int value) {
+            if (size < 0 || size >= values.length) {
                 return false;
             }
-            codes[length] = code;
-            length++;
+            values[size] = value;
+            size++;
             return true;
         }
 
         void clear() {
-            length = 0;
+            size = 0;
+        }
+
+        void copyFrom(Numbers other) {
+            clear();
+            for (int i = 0; i < other.size(); i++) {
+                append(other.at(i));
+            }
         }
     }
 
@@ -685,19 +692,19 @@ public final class AheadRows {
             return draft;
         }
 
-        boolean isWhole(Page page) {
-            return faultOf(page) == page.length() && isRowWhole();
+        boolean isWhole(Numbers page) {
+            return faultOf(page) == page.size() && isRowWhole();
         }
 
-        int faultOf(Page page) {
+        int faultOf(Numbers page) {
             draft.clear();
             taken = 0;
-            for (int i = 0; i < page.length(); i++) {
+            for (int i = 0; i < page.size(); i++) {
                 if (!takes(page.at(i))) {
                     return i;
                 }
             }
-            return page.length();
+            return page.size();
         }
 
         private boolean takes(int code) {
@@ -774,41 +781,13 @@ public final class AheadRows {
         }
     }
 
-    /** The given terms, and the guess that explains them. */
-    private static final class Given {
+    /** The guess that explains given terms. */
+    private static final class Explanation {
         private static final int MOST_GUESS = 9;
 
-        private final int[] values = new int[MOST_GIVEN];
-        private int size;
         private int degree;
         private int u;
         private int v;
-
-        int size() {
-            return size;
-        }
-
-        int at(int place) {
-            return place >= 0 && place < size && place < MOST_GIVEN ? values[place] : 0;
-        }
-
-        boolean append(int value) {
-            if (size >= MOST_GIVEN) {
-                return false;
-            }
-            values[size] = value;
-            size++;
-            return true;
-        }
-
-        void clear() {
-            size = 0;
-        }
-
-        void copyFrom(Given other) {
-            System.arraycopy(other.values, 0, values, 0, MOST_GIVEN);
-            size = other.size;
-        }
 
         int degree() {
             return degree;
@@ -822,34 +801,31 @@ public final class AheadRows {
             return v;
         }
 
-        boolean explain() {
+        boolean isFoundFor(Numbers terms) {
+            degree = 0;
             u = 0;
             v = 0;
-            degree = 0;
-            if (fits()) {
-                return true;
-            }
-            return explainByOne() || explainByTwo();
+            return fits(terms) || isFoundByOne(terms) || isFoundByTwo(terms);
         }
 
-        private boolean explainByOne() {
+        private boolean isFoundByOne(Numbers terms) {
             degree = 1;
             for (int i = -MOST_GUESS; i <= MOST_GUESS; i++) {
                 u = i;
-                if (fits()) {
+                if (fits(terms)) {
                     return true;
                 }
             }
             return false;
         }
 
-        private boolean explainByTwo() {
+        private boolean isFoundByTwo(Numbers terms) {
             degree = 2;
             for (int i = -MOST_GUESS; i <= MOST_GUESS; i++) {
                 for (int j = -MOST_GUESS; j <= MOST_GUESS; j++) {
                     u = i;
                     v = j;
-                    if (fits()) {
+                    if (fits(terms)) {
                         return true;
                     }
                 }
@@ -857,10 +833,10 @@ public final class AheadRows {
             return false;
         }
 
-        // While the degree is below 2 or 1, v or u is 0, so one equation serves all degrees.
-        private boolean fits() {
-            for (int k = degree; k < size; k++) {
-                if (at(k) != u * at(k - 1) + v * at(k - 2)) {
+        // With a degree below 2, v is 0, and with one below 1, u too: so one equation serves all degrees.
+        private boolean fits(Numbers terms) {
+            for (int k = degree; k < terms.size(); k++) {
+                if (terms.at(k) != u * terms.at(k - 1) + v * terms.at(k - 2)) {
                     return false;
                 }
             }

@@ -185,11 +185,14 @@ final class PromisesTest {
             for (int what = 0; what <= 4; what++) DUE.is("read row(" + row + ", " + what + ")", x.row(row, what), want[row][what]);
         }
         x.give(7);
+        DUE.is("term of the old row", x.term(0, 1), 1);
+        DUE.is("remainder of the old row", x.by(0, 1, 10), 1);
         Due.type(x, "t0012");
         DUE.is("rows() in place of others", x.rows(), 1);
         DUE.is("what was row 1", x.row(1, 0), UNKNOWN);
         DUE.is("given terms after rows()", x.count(3), 1);
         DUE.is("term of the new row", x.term(0, 1), 2);
+        DUE.is("remainder of the new row", x.by(0, 1, 10), 2);
         Due.type(x, "d0");
         DUE.is("rows() on a faulty page", x.rows(), STATE);
         DUE.is("rows after that", x.count(0), 1);
@@ -273,6 +276,11 @@ final class PromisesTest {
         DUE.is("10^9", x.term(2, 9), 1000000000);
         DUE.is("-10^9", x.term(4, 9), -1000000000);
         DUE.is("10^10", x.term(2, 10), FAR);
+        x.told(1, 0, 1, 1);
+        x.sum(2, 5);
+        x.sum(4, 3);
+        DUE.is("10^9 + 1", x.term(6, 9), FAR);
+        DUE.is("-10^9 - 1", x.term(7, 9), FAR);
         // A told row of a far term and then small ones: 0 again and again between growing terms.
         x = new AheadRows();
         x.told(0, 9, 1, 0);
@@ -384,6 +392,8 @@ final class PromisesTest {
         // Products of products: more than 8 numbers, of which none is told then.
         DUE.is("L of 16", Due.of("t3332;tabbc;*11;*20;+30;+12;*34;*54").least(7, 5, 0), 16);
         DUE.is("L of 15", Due.of("t1120;taa13;+01;+01;+10;*34;*55;+24").least(6, 5, 0), 15);
+        // The term 16, which is not asked for, would make it 9.
+        leastIs(Due.of("t2aa0;ta01b;tbb23;*20;*33;+40"), "a row with L 8", 5, 3, 8, 1, 2, 2, 1, 2, 0, 1, 2);
         DUE.is("L of 9", Due.of("t5144;t6422;t2526;*01;*23;+40").least(5, 7, 0), 9);
         x = Due.of("t0506;t4436;t2444;*01;*23;+40");
         DUE.is("L above 8", x.least(5, 7, 0), 10);
@@ -531,6 +541,9 @@ final class PromisesTest {
         x.product(4, 2);
         DUE.is("ends of 840 * 360", x.ends(7), NONE);
         DUE.is("ends(8)", x.ends(8), UNKNOWN);
+        x = new AheadRows();
+        x.told(0, 1, 504, 5);
+        DUE.is("ends of 504, 5, 504, 5, ...", x.ends(0), 10);
     }
 
     private static void p16Open() {
@@ -665,6 +678,7 @@ final class PromisesTest {
         x.sum(1, 0);
         DUE.is("term before put", x.term(2, 3), 3);
         DUE.is("by before put", x.by(2, 3, 10), 3);
+        for (int m = 2; m <= 10; m++) DUE.is("by before put", x.by(2, 0, m), 1);
         DUE.is("put(0, 0, 2)", x.put(0, 0, 2), 1);
         DUE.is("put(0, 1, -1)", x.put(0, 1, -1), 1);
         DUE.is("put(0, 2, -999)", x.put(0, 2, -999), 0);
@@ -672,6 +686,9 @@ final class PromisesTest {
         DUE.is("put(0, 3, 998)", x.put(0, 3, 998), 999);
         DUE.is("term of the row above", x.term(2, 0), 998);
         DUE.is("by of the row above", x.by(2, 0, 10), 8);
+        for (int m = 2; m <= 10; m++) DUE.is("by of the row above", x.by(2, 0, m), 998 % m);
+        // Its term k is -999 + 1997 * (k + 1) now.
+        for (int m = 2; m <= 10; m++) DUE.is("by of the row above", x.by(2, 3, m), 6989 % m);
         DUE.is("put(0, -1, 0)", x.put(0, -1, 0), OUTSIDE);
         DUE.is("put(0, 4, 0)", x.put(0, 4, 0), OUTSIDE);
         DUE.is("put(1, 4, 0)", x.put(1, 4, 0), OUTSIDE);
@@ -726,6 +743,13 @@ final class PromisesTest {
         easedTo(x, 4, 1, 1, 1, 2, 2);
         easedTo(x, 5, 1, 1, 1, 4, 2);
         DUE.is("a row that is told by now", x.ease(5), STATE);
+        x.put(2, 0, 1);
+        DUE.is("a sum of rows with another D", x.ease(6), STATE);
+        x.put(2, 0, 2);
+        x.put(2, 1, 1);
+        DUE.is("a sum of rows with another C", x.ease(6), STATE);
+        x.put(2, 0, 7);
+        x.put(2, 1, -1);
         DUE.is("term(2, 2) after ease", x.term(2, 2), 89);
         DUE.is("by(2, 2, 10) after ease", x.by(2, 2, 10), 9);
         DUE.is("ease(0)", x.ease(0), STATE);
@@ -870,6 +894,20 @@ final class PromisesTest {
         guessIs(NONE, NONE, NONE, 0, 0, 1);
         guessIs(NONE, NONE, NONE, 1, 2, 4, 8, 16, 32, 64, 63);
         guessIs(NONE, NONE, NONE, 2, 4, 5);
+        AheadRows x = new AheadRows();
+        x.give(0);
+        x.give(1);
+        DUE.is("V of degree 2", x.guess(2), -9);
+        x.forget();
+        DUE.is("U of degree 0 behind another guess", x.guess(1), 0);
+        DUE.is("V of degree 0 behind another guess", x.guess(2), 0);
+        x.give(0);
+        x.give(1);
+        DUE.is("V of degree 2 again", x.guess(2), -9);
+        x.forget();
+        x.give(1);
+        DUE.is("degree 1 behind another guess", x.guess(0), 1);
+        DUE.is("V of degree 1 behind another guess", x.guess(2), 0);
     }
 
     private static void foundIs(int[] given, int... want) {
