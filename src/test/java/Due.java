@@ -4,18 +4,31 @@ final class Due {
     static final int OUTSIDE = 2000000102, STATE = 2000000103, FULL = 2000000104;
 
     private final String test;
+    private final int mostShown;
+    private int shown;
     private int wrong;
     private int asked;
 
     Due(String test) {
+        this(test, 50);
+    }
+
+    /** Shows at most so many wrong answers, from the last showAgain() on. */
+    Due(String test, int mostShown) {
         this.test = test;
+        this.mostShown = mostShown;
+    }
+
+    void showAgain() {
+        shown = 0;
     }
 
     void is(String call, long got, long want) {
         asked++;
         if (got != want) {
             wrong++;
-            if (wrong <= 50) {
+            shown++;
+            if (shown <= mostShown) {
                 System.out.println(test + ": " + call + " answered " + got + ", due is " + want);
             }
         }
@@ -23,6 +36,10 @@ final class Due {
 
     void holds(String what, boolean holds) {
         is(what, holds ? 1 : 0, 1);
+    }
+
+    int asked() {
+        return asked;
     }
 
     void end() {
