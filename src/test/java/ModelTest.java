@@ -1,4 +1,3 @@
-import java.lang.reflect.Method;
 import java.util.Random;
 
 /** Pseudo-random runs of 512 calls, each answer held against Model's. An argument sets the number of runs. */
@@ -15,89 +14,73 @@ final class ModelTest {
         1, 4, 3, 3, 4};
 
     private final Random random;
-    private final AheadRows real = new AheadRows();
-    private final Model model = new Model();
+    private final Pair pair;
     private int rowsAbout;
     private int toldFirst;
 
-    private ModelTest(long seed) {
+    private ModelTest(String name, long seed) {
         random = new Random(seed);
+        pair = new Pair(DUE, name);
     }
 
     public static void main(String[] args) throws ReflectiveOperationException {
         int runs = args.length > 0 ? Integer.parseInt(args[0]) : 300;
         for (int run = 0; run < runs; run++) {
-            new ModelTest(7919L * run + 13).run(run);
-            new ModelTest(104729L * run + 5).deep(run);
+            new ModelTest("run " + run, 7919L * run + 13).run();
+            new ModelTest("deep run " + run, 104729L * run + 5).deep();
         }
         DUE.end();
     }
 
-    private void run(int run) throws ReflectiveOperationException {
+    private void run() throws ReflectiveOperationException {
         int calls = 0;
         while (calls < 511) {
             if (calls == 0 || random.nextInt(80) == 0) {
-                calls += typed(run, text(), 511 - calls);
+                calls += typed(text(), 511 - calls);
             } else {
                 String name = anyCall();
-                both(run, name, arguments(name));
+                pair.call(name, arguments(name));
                 calls++;
             }
-            rowsAbout = model.count(0);
+            rowsAbout = pair.rows();
         }
-        both(run, "digest");
+        pair.call("digest");
     }
 
     /** Rows upon rows of products and sums, of which alone linear complexities above 8 come. */
-    private void deep(int run) throws ReflectiveOperationException {
-        for (int i = 0; i < 3; i++) both(run, "told", factor(), factor(), random.nextInt(9), random.nextInt(9));
+    private void deep() throws ReflectiveOperationException {
+        for (int i = 0; i < 3; i++) pair.call("told", factor(), factor(), random.nextInt(9), random.nextInt(9));
         for (int i = 3; i < 8; i++) {
             int one = i - 1 - random.nextInt(2), other = random.nextInt(i);
-            if (random.nextInt(5) == 0) both(run, "each", one, 1 + random.nextInt(5), random.nextInt(10));
-            else both(run, random.nextInt(3) == 0 ? "sum" : "product", one, other);
+            if (random.nextInt(5) == 0) pair.call("each", one, 1 + random.nextInt(5), random.nextInt(10));
+            else pair.call(random.nextInt(3) == 0 ? "sum" : "product", one, other);
         }
         for (int row = 4; row < 8; row++) {
             for (int p : new int[] {2, 3, 5, 7}) {
-                for (int what = 0; what <= 8; what++) both(run, "least", row, p, what);
+                for (int what = 0; what <= 8; what++) pair.call("least", row, p, what);
             }
         }
         for (int m = 2; m <= 10; m++) {
-            for (int what = 0; what <= 2; what++) both(run, "lap", 7, m, what);
-            both(run, "by", 7, Integer.MAX_VALUE - m, m);
+            for (int what = 0; what <= 2; what++) pair.call("lap", 7, m, what);
+            pair.call("by", 7, Integer.MAX_VALUE - m, m);
         }
-        both(run, "open", 7, 0);
-        both(run, "open", 7, 1);
-        both(run, "ends", 7);
-        both(run, "digest");
+        pair.call("open", 7, 0);
+        pair.call("open", 7, 1);
+        pair.call("ends", 7);
+        pair.call("digest");
     }
 
     /** Types a text, mostly on an empty page, and mostly reads it then; how many calls that took. */
-    private int typed(int run, String text, int most) throws ReflectiveOperationException {
+    private int typed(String text, int most) throws ReflectiveOperationException {
         if (text.length() + 3 > most) {
-            both(run, "fault");
+            pair.call("fault");
             return 1;
         }
-        if (random.nextInt(6) != 0) both(run, "blank");
-        for (int i = 0; i < text.length(); i++) both(run, "letter", text.charAt(i));
-        both(run, "fault");
-        if (random.nextInt(6) != 0) both(run, "rows");
+        if (random.nextInt(6) != 0) pair.call("blank");
+        for (int i = 0; i < text.length(); i++) pair.call("letter", text.charAt(i));
+        pair.call("fault");
+        if (random.nextInt(6) != 0) pair.call("rows");
         return text.length() + 3;
-    }
-
-    private void both(int run, String name, int... arguments) throws ReflectiveOperationException {
-        Class<?>[] types = new Class<?>[arguments.length];
-        Object[] values = new Object[arguments.length];
-        StringBuilder call = new StringBuilder("run " + run + ": " + name + "(");
-        for (int i = 0; i < arguments.length; i++) {
-            types[i] = int.class;
-            values[i] = arguments[i];
-            call.append(i == 0 ? "" : ", ").append(arguments[i]);
-        }
-        Method one = AheadRows.class.getMethod(name, types);
-        Method other = Model.class.getMethod(name, types);
-        long got = ((Number) one.invoke(real, values)).longValue();
-        long want = ((Number) other.invoke(model, values)).longValue();
-        DUE.is(call.append(")").toString(), got, want);
     }
 
     private String anyCall() {
