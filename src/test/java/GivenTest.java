@@ -194,7 +194,13 @@ final class GivenTest extends Sentences {
         is("drawn(30, 1, 0)", x.drawn(30, 1, 0), 339);
         is("drawn(30, 1, 0) again", x.drawn(30, 1, 0), 339);
         is("digest() after drawn()", x.digest(), before);
-        is("drawn without rows", new AheadRows().drawn(30, 1, 0), 339);
+        AheadRows y = new AheadRows();
+        is("drawn without rows", y.drawn(30, 1, 0), 339);
+        is("count(0) after drawn()", y.count(0), 0);
+        is("told after drawn()", y.told(1, 1, 0, 1), 0);
+        is("drawn with one row", y.drawn(1, 0, 1), 0);
+        is("count(0) after drawn()", y.count(0), 1);
+        is("count(1) after drawn()", y.count(1), 1);
         says("There is a number s, which is the seed at first");
         is("two rows are one and another", x.drawn(2, 0, 2), x.drawn(1, x.drawn(1, 0, 2), 2));
         says("To draw a number means: s becomes (1103515245 * s + 12345) modulo 2^31, without overflow");

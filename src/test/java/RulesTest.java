@@ -291,6 +291,9 @@ final class RulesTest extends Sentences {
         is("open of 5 * k + 9", x.open(6, 0), 0);
         // a multiple of 2520 lacks none, and where one modulus is lacking, none is open
         for (int lacking : new int[] {360, 504, 280, 840, 315, 630}) is("open of " + lacking, told(1, 0, lacking, lacking).open(0, 0), 0);
+        AheadRows lacks8 = told(1, 0, 630, 630);
+        lacks8.sum(0, 0);
+        is("open of 1260", lacks8.open(1, 0), 0);
         says("`what`: 0: how many such numbers there are");
         is("open of zeros", told(0, 0, 0, 0).open(0, 0), 1000);
         is("open of 840 * k", x.open(5, 0), 334);
@@ -388,10 +391,27 @@ final class RulesTest extends Sentences {
         y.product(0, 0);
         y.product(1, 2);
         is("a meeting behind both laps", y.meets(3, 4, 7), 55);
-        AheadRows z = of("t1405;t2a46;t3133;+10;+02;*44;+34;*36");
-        int k = 0;
-        while (k < 340 && z.by(5, k, 7) != z.by(7, k, 7)) k += 1;
-        is("a late meeting", k, 183);
-        is("a late meeting", of("t1405;t2a46;t3133;+10;+02;*44;+34;*36").meets(5, 7, 7), 183);
+        lateMeetings();
+    }
+
+    /** Rows that meet for the first time near the end of what all rows have in common; modulo 8 none meet later. */
+    private void lateMeetings() {
+        lateMeeting("t1110;t0110;t0001;*10;*02;+30;*55;+25", 7, 1, 2, 7);
+        lateMeeting("t2111;t2022;t2201;+20;*03;+40;+34;*56", 7, 1, 3, 24);
+        lateMeeting("t0203;t3101;t2132;*11;*11;*11;*22;+50", 7, 2, 4, 15);
+        lateMeeting("t4114;t3222;t1210;*00;*03;+33;+12;*66", 7, 5, 5, 119);
+        lateMeeting("t0241;t3510;t5124;t2410;*00;*42;+12;*52", 6, 0, 6, 25);
+        lateMeeting("t3440;t2662;t5453;+20;+33;*41;+31;*55", 6, 7, 7, 334);
+        lateMeeting("t7317;t0621;t2574;*00;+13;+42;*34;*02", 4, 2, 8, 29);
+        lateMeeting("t8431;t4501;t8516;t3041;+23;+20;*51;+66", 7, 4, 9, 74);
+    }
+
+    private void lateMeeting(String text, int one, int other, int m, int k) {
+        is("the first meeting of \"" + text + "\" modulo " + m, of(text).meets(one, other, m), k);
+        AheadRows x = of(text);
+        AheadRows y = of(text);
+        for (int i = 0; i <= k; i++) {
+            is("same remainders at " + i + " modulo " + m, x.by(one, i, m) == y.by(other, i, m) ? 1 : 0, i == k ? 1 : 0);
+        }
     }
 }
