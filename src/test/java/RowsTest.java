@@ -231,6 +231,19 @@ final class RowsTest extends Sentences {
         lapIs(x, 6, 10, 30, 0, 2);
         lapIs(x, 7, 10, 60, 0, 4);
         is("digest() after lap()", x.digest(), before);
+        // 0, 1, 0, 1, ...: its step is 1, -1, 1, ..., each second of it one and the same, the sum with itself 0, 2, 0, 2, ...
+        AheadRows y = told(0, 1, 0, 1);
+        y.step(0);
+        y.each(0, 2, 1);
+        y.sum(0, 0);
+        y.product(1, 0);
+        lapIs(y, 1, 10, 2, 0, 0);
+        lapIs(y, 1, 2, 1, 0, 0);
+        lapIs(y, 2, 10, 1, 0, 0);
+        lapIs(y, 3, 10, 2, 0, 1);
+        lapIs(y, 3, 2, 1, 0, 1);
+        lapIs(y, 4, 10, 2, 0, 1);
+        is("the remainder of -1 in a product", y.by(4, 1, 10), 9);
         says("`m`: the modulus, 2 to 10");
         int[] fibonacci = {3, 8, 6, 20, 24, 16, 12, 24, 60};
         for (int m = 2; m <= 10; m++) is("lap(0, " + m + ", 0)", x.lap(0, m, 0), fibonacci[m - 2]);
@@ -287,6 +300,14 @@ final class RowsTest extends Sentences {
         leastIs(x, 6, 7, 4, 2, 1, 5, 6);
         leastIs(x, 7, 7, 6, 3, 0, 2, 0, 3, 1);
         is("digest() after least()", x.digest(), before);
+        // a step, an each and a sum: 1, -1, 1, ...; the squares of Fibonacci's roots; (x^2 - x - 1)(x - 3)
+        AheadRows z = told(0, 1, 0, 1, 1, 1, 0, 1, 3, 0, 1, 3);
+        z.step(0);
+        z.each(1, 2, 1);
+        z.sum(1, 2);
+        leastIs(z, 3, 7, 1, 6);
+        leastIs(z, 4, 7, 2, 3, 6);
+        leastIs(z, 5, 7, 3, 4, 5, 4);
         says("`p`: the prime, 2, 3, 5 or 7");
         leastIs(x, 2, 2, 1, 1);
         leastIs(x, 2, 3, 1, 0);

@@ -261,6 +261,16 @@ final class RulesTest extends Sentences {
         is("noughts in the head alone", told(0, 1, 1, 0).ends(0), NONE);
         is("ends of powers of 2", told(2, 0, 1, 2).ends(0), 3);
         is("ends of powers of 6", told(6, 0, 1, 6).ends(0), 5);
+        // a step of 4, -4, ..., an each of 504 and one of 5, a sum of 4, 5, ...
+        AheadRows all = told(0, 1, 1, 5, 0, 1, 504, 5, 0, 1, 1, 2, 1, 0, 3, 3);
+        all.step(0);
+        all.each(1, 2, 0);
+        all.each(1, 2, 1);
+        all.sum(2, 3);
+        is("ends of a step", all.ends(4), 3);
+        is("ends of an each", all.ends(5), 5);
+        is("ends of another each", all.ends(6), 2);
+        is("ends of a sum", all.ends(7), 3);
         says("Returns the modulus");
         AheadRows x = told(2, 0, 3, 6);
         is("ends of 3 * 2^k", x.ends(0), 5);
@@ -294,6 +304,16 @@ final class RulesTest extends Sentences {
         AheadRows lacks8 = told(1, 0, 630, 630);
         lacks8.sum(0, 0);
         is("open of 1260", lacks8.open(1, 0), 0);
+        // a step of one and the same, an each that takes the noughts, a sum of opposite terms
+        AheadRows all = told(1, 0, 1, 1, 0, 1, 0, 1, 1, 0, -1, -1);
+        all.step(0);
+        all.each(1, 2, 0);
+        all.each(1, 2, 1);
+        all.sum(0, 2);
+        is("open of a step", all.open(3, 0), 1000);
+        is("open of an each", all.open(4, 0), 1000);
+        is("open of another each", all.open(5, 0), 0);
+        is("open of a sum", all.open(6, 0), 1000);
         says("`what`: 0: how many such numbers there are");
         is("open of zeros", told(0, 0, 0, 0).open(0, 0), 1000);
         is("open of 840 * k", x.open(5, 0), 334);
@@ -357,6 +377,17 @@ final class RulesTest extends Sentences {
         }
         is("Fibonacci and k + 3 modulo 7", y.meets(0, 1, 7), late);
         is("the other way round", y.meets(1, 0, 7), late);
+        // a step of 4, -4, ..., its sum with 1, 5, 1, ... and an each of that: 5, 1, ... and 1, 1, ...
+        AheadRows all = told(0, 1, 1, 5, 1, 0, -4, -4, 1, 0, 1, 1);
+        all.step(0);
+        all.sum(0, 3);
+        all.each(4, 2, 1);
+        all.product(3, 3);
+        is("a step and -4", all.meets(3, 1, 10), 1);
+        is("a sum and 1", all.meets(4, 2, 10), 1);
+        is("an each and 1", all.meets(5, 2, 10), 0);
+        is("a product of 16, 16, ... and -4 modulo 10", all.meets(6, 1, 10), 0);
+        is("a product of 16, 16, ... and -4 modulo 9", all.meets(6, 1, 9), NONE);
         says("`other`: a row, possibly the same");
         for (int m = 2; m <= 10; m++) is("a row and itself", x.meets(5, 5, m), 0);
         says("`m`: the modulus, 2 to 10");
