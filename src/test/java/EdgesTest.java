@@ -2,8 +2,8 @@ import java.util.ArrayList;
 import java.util.List;
 
 /**
- * Every method with every choice of arguments from the edges of their ranges, in objects that are new, full, emptied
- * and between: the answers are Model's, and so is all that the object tells afterwards.
+ * Every method with every choice of arguments from the edges of their ranges (of told any two at a time), in objects
+ * that are new, full, emptied and between: the answers are Model's, and so is all that the object tells afterwards.
  */
 final class EdgesTest {
     private static final Due DUE = new Due("EdgesTest");
